@@ -32,10 +32,11 @@ final class Scene {
 
     /** Makes turns, none of which may be refused. */
     Scene turns(int times) {
-        for (int i = 0; i < times; i++) {
-            int alive = arena.turn();
-            checks.due(name + ": turn", alive, arena.count(LIVING));
+        int alive = 0;
+        for (int i = 0; i < times && alive != TankArena.REFUSED; i++) {
+            alive = arena.turn();
         }
+        checks.due(name + ": turn", alive, arena.count(LIVING));
         return this;
     }
 
