@@ -338,11 +338,10 @@ public final class TankArena {
     }
 
     private void dieIfSpent(int number) {
-        Tank tank = tanks[number];
-        if (!tank.alive || tank.energy > 0) {
+        if (tanks[number].energy > 0) {
             return;
         }
-        tank.alive = false;
+        tanks[number].alive = false;
         for (int i = 0; i < entered; i++) {
             if (tanks[i].alive) {
                 tanks[i].score += DEATH_SCORE;
