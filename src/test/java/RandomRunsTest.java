@@ -72,7 +72,7 @@ public final class RandomRunsTest {
             int dice = below(40);
             if (dice < asked) {
                 ask();
-            } else if (dice == 39 && below(60) == 0) {
+            } else if (dice == 39 && calls < CALLS - 210 && below(60) == 0) {
                 restart();
                 enterTanks(kind);
                 writePrograms(kind);
@@ -83,6 +83,7 @@ public final class RandomRunsTest {
             }
         }
         askAll();
+        checks.due("run " + run + " keeps to 512 calls", calls <= CALLS ? 1 : 0, 1);
     }
 
     private void enterTanks(int kind) {
