@@ -30,9 +30,19 @@ final class Scene {
         return this;
     }
 
+    /** A program that goes half a unit in the first turn and stands from then on. */
+    static int[] halfAStep() {
+        return new int[] {SPEED, 1, 0, WAIT, 0, 0, SPEED, 0, 0, WAIT, 0, 0, JUMP, 3, 0};
+    }
+
+    /** The same, with a FIRE in every turn from the second on. */
+    static int[] halfAStepThenFire(int power) {
+        return new int[] {SPEED, 1, 0, WAIT, 0, 0, SPEED, 0, 0, FIRE, power, 0, WAIT, 0, 0, JUMP, 3, 0};
+    }
+
     /** Makes turns, none of which may be refused. */
     Scene turns(int times) {
-        int alive = 0;
+        int alive = arena.count(LIVING);
         for (int i = 0; i < times && alive != TankArena.REFUSED; i++) {
             alive = arena.turn();
         }
