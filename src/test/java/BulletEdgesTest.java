@@ -28,7 +28,8 @@ public final class BulletEdgesTest {
     private static void unitByUnit() {
         new Scene(CHECKS, "between").tank(10, 30, 0, Scene.FIRE, 1, 0).tank(14, 30, 0).tank(19, 30, 0)
             .turns(13).state(1, Scene.WAS_HIT, 1).state(2, Scene.WAS_HIT, 0).count(Scene.HITS, 1);
-        new Scene(CHECKS, "in front of the border").tank(58, 30, 0, Scene.FIRE, 1, 0).tank(62, 30, 0).turns(13).count(Scene.HITS, 1);
+        new Scene(CHECKS, "in front of the border").tank(58, 30, 0, Scene.FIRE, 1, 0).tank(62, 30, 0).turns(13)
+            .count(Scene.HITS, 1);
     }
 
     /** The target stands off the line of a bullet to the right or upwards, half a unit further if it is told so. */
@@ -38,10 +39,12 @@ public final class BulletEdgesTest {
         int[] program = further ? Scene.halfAStep() : new int[0];
         int hits = hit ? 1 : 0;
         new Scene(CHECKS, name + ", in y").tank(10, 30, 0, Scene.FIRE, 1, 0).tank(16, 30 + off, away > 0 ? 2 : 6, program)
-            .turns(13).measure(1, Scene.Y, 30 + off + (further ? 0.5 * away : 0)).count(Scene.HITS, hits).state(1, Scene.WAS_HIT, hits)
+            .turns(13).measure(1, Scene.Y, 30 + off + (further ? 0.5 * away : 0)).count(Scene.HITS, hits)
+            .state(1, Scene.WAS_HIT, hits)
             .count(Scene.BULLETS, 1 - hits);
         new Scene(CHECKS, name + ", in x").tank(30, 10, 2, Scene.FIRE, 1, 0).tank(30 + off, 16, away > 0 ? 0 : 4, program)
-            .turns(13).measure(1, Scene.X, 30 + off + (further ? 0.5 * away : 0)).count(Scene.HITS, hits).state(1, Scene.WAS_HIT, hits)
+            .turns(13).measure(1, Scene.X, 30 + off + (further ? 0.5 * away : 0)).count(Scene.HITS, hits)
+            .state(1, Scene.WAS_HIT, hits)
             .count(Scene.BULLETS, 1 - hits);
     }
 
@@ -67,6 +70,15 @@ public final class BulletEdgesTest {
             .turns(13).measure(1, Scene.X, 18.5).count(Scene.HITS, 1);
     }
 
+    /** Step 3 comes before step 4: what counts is where the target stands before it goes on in turn 13. */
+    private static void beforeTheTanksMove() {
+        int[] program = {Scene.SET, 0, 12, Scene.WAIT, 0, 0, Scene.LOOP, 1, 0, Scene.SPEED, 1, 0, Scene.WAIT, 0, 0, Scene.JUMP, 4, 0};
+        new Scene(CHECKS, "away from 2 ahead").tank(10, 30, 0, Scene.FIRE, 1, 0).tank(19, 30, 0, program)
+            .turns(13).measure(1, Scene.X, 19.5).count(Scene.HITS, 1);
+        new Scene(CHECKS, "up to 2 1/2 ahead").tank(10, 30, 0, Scene.FIRE, 1, 0).tank(20, 30, 4, program)
+            .turns(13).measure(1, Scene.X, 19.5).count(Scene.HITS, 0).turns(1).count(Scene.HITS, 1);
+    }
+
     /** "if its place is not within the field, it is gone": at 64, 16 it still hits the tank 2 off; at 65, 17 it is gone. */
     private static void lastPlaceInTheField() {
         new Scene(CHECKS, "met on the border").tank(58, 10, 1, Scene.FIRE, 1, 0).tank(62, 18, 0)
@@ -83,7 +95,8 @@ public final class BulletEdgesTest {
     private static void notTheOwnTank() {
         for (int direction = 0; direction < 8; direction++) {
             for (int power = 1; power <= 3; power++) {
-                shotAt(direction, power, 20).state(0, Scene.WAS_HIT, 0).measure(0, Scene.ENERGY, 100 - power).count(Scene.BULLETS, 1)
+                shotAt(direction, power, 20).state(0, Scene.WAS_HIT, 0).measure(0, Scene.ENERGY, 100 - power)
+                    .count(Scene.BULLETS, 1)
                     .count(Scene.HITS, 0);
             }
         }
@@ -101,7 +114,8 @@ public final class BulletEdgesTest {
             .turns(13).state(1, Scene.WAS_HIT, 1).state(2, Scene.WAS_HIT, 0).count(Scene.HITS, 1);
         new Scene(CHECKS, "before the one that fires").tank(18, 32, 0).tank(18, 28, 0).tank(10, 30, 0, Scene.FIRE, 1, 0)
             .turns(13).state(0, Scene.WAS_HIT, 1).state(1, Scene.WAS_HIT, 0).count(Scene.HITS, 1);
-        new Scene(CHECKS, "the greater number is met a unit before").tank(10, 30, 0, Scene.FIRE, 1, 0).tank(19, 28, 0).tank(18, 32, 0)
+        new Scene(CHECKS, "the greater number is met a unit before").tank(10, 30, 0, Scene.FIRE, 1, 0).tank(19, 28, 0)
+            .tank(18, 32, 0)
             .turns(13).state(1, Scene.WAS_HIT, 0).state(2, Scene.WAS_HIT, 1).count(Scene.HITS, 1);
     }
 
@@ -128,8 +142,10 @@ public final class BulletEdgesTest {
 
     /** "a tank whose energy is then not above 0 is no longer alive": 1/4 is alive, 0 is not, nor is -1/4. */
     private static void lastHit() {
-        hitAtTheWall(15).turns(1).measure(1, Scene.ENERGY, 0.25).state(1, Scene.ALIVE, 1).count(Scene.LIVING, 3).state(1, Scene.WAS_HIT, 1);
-        hitAtTheWall(16).turns(1).measure(1, Scene.ENERGY, 0).state(1, Scene.ALIVE, 0).count(Scene.LIVING, 2).state(1, Scene.WAS_HIT, 1);
+        hitAtTheWall(15).turns(1).measure(1, Scene.ENERGY, 0.25).state(1, Scene.ALIVE, 1).count(Scene.LIVING, 3)
+            .state(1, Scene.WAS_HIT, 1);
+        hitAtTheWall(16).turns(1).measure(1, Scene.ENERGY, 0).state(1, Scene.ALIVE, 0).count(Scene.LIVING, 2)
+            .state(1, Scene.WAS_HIT, 1);
         hitAtTheWall(17).turns(1).measure(1, Scene.ENERGY, -0.25).state(1, Scene.ALIVE, 0).count(Scene.LIVING, 2);
     }
 
@@ -143,9 +159,11 @@ public final class BulletEdgesTest {
 
     /** "Each bullet, in the order in which they were fired": the first kills in turn 34, the second of that turn flies on. */
     private static void inOrder() {
-        Scene scene = new Scene(CHECKS, "two at one").tank(10, 30, 0, Scene.FIRE, 3, 0).tank(20, 30, 4, Scene.FIRE, 3, 0).tank(15, 30, 2)
+        Scene scene = new Scene(CHECKS, "two at one").tank(10, 30, 0, Scene.FIRE, 3, 0).tank(20, 30, 4, Scene.FIRE, 3, 0)
+            .tank(15, 30, 2)
             .turns(33).measure(2, Scene.ENERGY, 100 - 6 * 16).count(Scene.BULLETS, 0);
-        scene.turns(1).state(2, Scene.ALIVE, 0).count(Scene.BULLETS, 1).bullet(0, 15, 30, 3, 4, 1).measure(0, Scene.SCORE, 4 * 16 + 50)
+        scene.turns(1).state(2, Scene.ALIVE, 0).count(Scene.BULLETS, 1).bullet(0, 15, 30, 3, 4, 1)
+            .measure(0, Scene.SCORE, 4 * 16 + 50)
             .measure(1, Scene.SCORE, 3 * 16 + 50);
     }
 
@@ -168,7 +186,8 @@ public final class BulletEdgesTest {
             .tank(15, 50, 0).tank(50, 50, 0);
         scene.turns(54).bullet(0, 15, 17, 1, 2, 1).turns(1).state(1, Scene.ALIVE, 0).bullet(0, 15, 24, 1, 2, 1)
             .turns(1).bullet(0, 15, 31, 1, 2, 1).turns(2).bullet(0, 15, 45, 1, 2, 1).measure(2, Scene.ENERGY, 100)
-            .turns(1).count(Scene.BULLETS, 0).measure(2, Scene.ENERGY, 96).measure(1, Scene.SCORE, 4).measure(1, Scene.ENERGY, 4 - 1 - 16);
+            .turns(1).count(Scene.BULLETS, 0).measure(2, Scene.ENERGY, 96).measure(1, Scene.SCORE, 4)
+            .measure(1, Scene.ENERGY, 4 - 1 - 16);
     }
 
     public static void main(String[] args) {
@@ -176,6 +195,7 @@ public final class BulletEdgesTest {
         unitByUnit();
         atMostTwo();
         atMostTwoAhead();
+        beforeTheTanksMove();
         lastPlaceInTheField();
         notTheOwnTank();
         leastNumber();

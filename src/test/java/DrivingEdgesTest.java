@@ -21,7 +21,7 @@ public final class DrivingEdgesTest {
         }
     }
 
-    /** It is the speed before this turn's change that counts: from 2 it turns though it is then 2 1/2, from 2 1/2 not though it is then 1 1/2. */
+    /** The speed before this turn's change counts: 2 turns though it is 2 1/2 then, 2 1/2 does not though it is 1 1/2 then. */
     private static void turningBeforeTheChange() {
         int[] faster = {Scene.SET, 0, 4, Scene.SPEED, 8, 0, Scene.WAIT, 0, 0, Scene.LOOP, 2, 0, Scene.TURN, 1, 0};
         alone("2 to 2 1/2", 4, 30, 0, faster).turns(5).measure(0, Scene.VELOCITY, 2.5).state(0, Scene.HEADING, 1);
@@ -32,7 +32,8 @@ public final class DrivingEdgesTest {
     /** Eight turns with the one wish, then one with the other. */
     private static Scene wishes(int first, int then) {
         return alone("wish " + first + " halves, then " + then, 4, 30, 0, Scene.SET, 0, 8, Scene.SPEED, first, 0, Scene.WAIT, 0, 0,
-            Scene.LOOP, 2, 0, Scene.SPEED, then, 0, Scene.WAIT, 0, 0, Scene.JUMP, 5, 0).turns(8).measure(0, Scene.VELOCITY, first * 0.5);
+            Scene.LOOP, 2, 0, Scene.SPEED, then, 0, Scene.WAIT, 0, 0, Scene.JUMP, 5, 0).turns(8)
+                .measure(0, Scene.VELOCITY, first * 0.5);
     }
 
     /** "If the wish .. is above the speed, this is 1/2 more; if it is below, 1 less but not below the wish": each pair. */
@@ -86,12 +87,15 @@ public final class DrivingEdgesTest {
                 double speed = 0.5 * turns;
                 way += speed;
                 int beyond = (int) Math.ceil(way) - 1;
-                Scene scene = towards(heading, beyond).turns(turns - 1).state(0, Scene.HAS_BUMPED, 0).measure(0, Scene.ENERGY, 100)
-                    .turns(1).state(0, Scene.HAS_BUMPED, 1).measure(0, Scene.ENERGY, 100 - speed / 2).measure(0, Scene.VELOCITY, 0)
+                Scene scene = towards(heading, beyond).turns(turns - 1).state(0, Scene.HAS_BUMPED, 0)
+                    .measure(0, Scene.ENERGY, 100)
+                    .turns(1).state(0, Scene.HAS_BUMPED, 1).measure(0, Scene.ENERGY, 100 - speed / 2)
+                    .measure(0, Scene.VELOCITY, 0)
                     .measure(0, Scene.WISH, 4);
                 placedOnTheWall(scene, heading);
                 if (way == Math.floor(way)) {
-                    Scene onIt = towards(heading, (int) way).turns(turns).state(0, Scene.HAS_BUMPED, 0).measure(0, Scene.ENERGY, 100)
+                    Scene onIt = towards(heading, (int) way).turns(turns).state(0, Scene.HAS_BUMPED, 0)
+                        .measure(0, Scene.ENERGY, 100)
                         .measure(0, Scene.VELOCITY, speed);
                     placedOnTheWall(onIt, heading);
                 }
@@ -102,8 +106,10 @@ public final class DrivingEdgesTest {
     /** Standing on the wall's line with its heading outwards is no bump, nor is going along it. */
     private static void onTheWallsLine() {
         alone("standing", 62, 30, 0).turns(3).place(0, 62, 30).state(0, Scene.HAS_BUMPED, 0).measure(0, Scene.ENERGY, 100);
-        alone("along the right", 62, 30, 2, Scene.SPEED, 2, 0).turns(3).place(0, 62, 32.5).state(0, Scene.HAS_BUMPED, 0).measure(0, Scene.ENERGY, 100);
-        alone("along the bottom", 30, 2, 4, Scene.SPEED, 2, 0).turns(3).place(0, 27.5, 2).state(0, Scene.HAS_BUMPED, 0).measure(0, Scene.ENERGY, 100);
+        alone("along the right", 62, 30, 2, Scene.SPEED, 2, 0).turns(3).place(0, 62, 32.5).state(0, Scene.HAS_BUMPED, 0)
+            .measure(0, Scene.ENERGY, 100);
+        alone("along the bottom", 30, 2, 4, Scene.SPEED, 2, 0).turns(3).place(0, 27.5, 2).state(0, Scene.HAS_BUMPED, 0)
+            .measure(0, Scene.ENERGY, 100);
         alone("off the wall", 62, 62, 5, Scene.SPEED, 2, 0).turns(1).place(0, 61.5, 61.5).state(0, Scene.HAS_BUMPED, 0);
     }
 
@@ -131,9 +137,21 @@ public final class DrivingEdgesTest {
             .turns(1).place(0, 22.5, 30).measure(0, Scene.VELOCITY, 0.5).state(0, Scene.HAS_BUMPED, 0);
     }
 
+    /** "After a bump its speed is 0", not the other one's: tank 1 runs into tank 0 from the side. */
+    private static void otherKeepsItsSpeed() {
+        new Scene(CHECKS, "from the side").tank(30, 20, 2, Scene.SPEED, 4, 0)
+            .tank(26, 26, 0, Scene.WAIT, 0, 0, Scene.WAIT, 0, 0, Scene.WAIT, 0, 0,
+            Scene.SPEED, 1, 0, Scene.WAIT, 0, 0)
+            .turns(3).place(0, 30, 23).measure(0, Scene.VELOCITY, 1.5).state(1, Scene.HAS_BUMPED, 0)
+            .turns(1).place(0, 30, 25).measure(0, Scene.VELOCITY, 2).state(0, Scene.HAS_BUMPED, 0).measure(0, Scene.ENERGY, 99.5)
+            .place(1, 26, 26).measure(1, Scene.VELOCITY, 0).state(1, Scene.HAS_BUMPED, 1).measure(1, Scene.ENERGY, 99.5)
+            .turns(1).place(0, 30, 27).measure(0, Scene.VELOCITY, 2);
+    }
+
     /** What it turned stays turned, and the other one goes on with its own speed. */
     private static void goesBackTurned() {
-        new Scene(CHECKS, "turned").tank(30, 30, 1, Scene.TURN, -1, 0, Scene.GUN, 1, 0, Scene.SPEED, 1, 0).tank(34, 30, 2, Scene.SPEED, 1, 0)
+        new Scene(CHECKS, "turned").tank(30, 30, 1, Scene.TURN, -1, 0, Scene.GUN, 1, 0, Scene.SPEED, 1, 0)
+            .tank(34, 30, 2, Scene.SPEED, 1, 0)
             .turns(1).place(0, 30, 30).state(0, Scene.HEADING, 0).state(0, Scene.GUN_AT, 2).state(0, Scene.HAS_BUMPED, 1)
             .place(1, 34, 30.5).measure(1, Scene.VELOCITY, 0.5);
     }
@@ -149,10 +167,12 @@ public final class DrivingEdgesTest {
     /** Wall and tank in one turn: both losses, the place before, a speed of 0. */
     private static void wallAndTank() {
         new Scene(CHECKS, "wall and tank").tank(30, 62, 1, Scene.SPEED, 1, 0).tank(34, 62, 0)
-            .turns(1).place(0, 30, 62).measure(0, Scene.ENERGY, 99.25).measure(1, Scene.ENERGY, 99.5).measure(0, Scene.VELOCITY, 0)
+            .turns(1).place(0, 30, 62).measure(0, Scene.ENERGY, 99.25).measure(1, Scene.ENERGY, 99.5)
+            .measure(0, Scene.VELOCITY, 0)
             .state(0, Scene.HAS_BUMPED, 1);
         new Scene(CHECKS, "back from the wall").tank(30, 61, 1, Scene.SPEED, 2, 0).tank(35, 62, 0)
-            .turns(1).place(0, 30.5, 61.5).turns(1).place(0, 30.5, 61.5).measure(0, Scene.ENERGY, 99).measure(1, Scene.ENERGY, 99.5);
+            .turns(1).place(0, 30.5, 61.5).turns(1).place(0, 30.5, 61.5).measure(0, Scene.ENERGY, 99)
+            .measure(1, Scene.ENERGY, 99.5);
     }
 
     /** "Tanks whose energy is not above 0 are then no longer alive": at the wall, 1/4 and 0. */
@@ -169,26 +189,29 @@ public final class DrivingEdgesTest {
             .turns(1).measure(0, Scene.ENERGY, 0).state(0, Scene.ALIVE, 0).state(0, Scene.HAS_BUMPED, 1);
         new Scene(CHECKS, "bumps at the wall").tank(30, 62, 1, Scene.SPEED, 1, 0).tank(34, 62, 0)
             .turns(133).measure(0, Scene.ENERGY, 0.25).state(0, Scene.ALIVE, 1)
-            .turns(1).measure(0, Scene.ENERGY, -0.5).state(0, Scene.ALIVE, 0).state(1, Scene.ALIVE, 1).measure(1, Scene.ENERGY, 33);
+            .turns(1).measure(0, Scene.ENERGY, -0.5).state(0, Scene.ALIVE, 0).state(1, Scene.ALIVE, 1)
+            .measure(1, Scene.ENERGY, 33);
     }
 
     /** Tanks 0 and 2 bump into tank 1 from both sides in every turn; before that it loses quarters at the upper wall. */
     private static Scene between(int quarters) {
         int[] program = {Scene.SET, 0, quarters, Scene.SPEED, 1, 0, Scene.WAIT, 0, 0, Scene.LOOP, 2, 0, Scene.SPEED, 0, 0,
             Scene.GUN, 1, 0, Scene.WAIT, 0, 0, Scene.JUMP, 5, 0};
-        return new Scene(CHECKS, "between, " + quarters + " quarters less").tank(26, 62, 0, Scene.SPEED, 1, 0).tank(30, 62, 2, program)
+        return new Scene(CHECKS, "between, " + quarters + " quarters less").tank(26, 62, 0, Scene.SPEED, 1, 0)
+            .tank(30, 62, 2, program)
             .tank(34, 62, 4, Scene.SPEED, 1, 0).turns(99).measure(1, Scene.ENERGY, 1 - 0.25 * quarters);
     }
 
-    /** The one that is bumped into: in turn 100 it has 1/4 behind the bump of tank 0 and is alive for that of tank 2, or 0 and is not. */
+    /** The one that is bumped into: behind the bump of tank 0 in turn 100 it has 1/4 and is there for tank 2's, or 0 and is not. */
     private static void lastEnergyOfTheOther() {
-        between(1).turns(1).measure(1, Scene.ENERGY, -0.25).state(1, Scene.ALIVE, 0).state(2, Scene.HAS_BUMPED, 1).place(2, 34, 62)
+        between(1).turns(1).measure(1, Scene.ENERGY, -0.25).state(1, Scene.ALIVE, 0).state(2, Scene.HAS_BUMPED, 1)
+            .place(2, 34, 62)
             .measure(2, Scene.ENERGY, 50).state(0, Scene.HAS_BUMPED, 1);
         between(2).turns(1).measure(1, Scene.ENERGY, 0).state(1, Scene.ALIVE, 0).state(2, Scene.HAS_BUMPED, 0).place(2, 33.5, 62)
             .measure(2, Scene.ENERGY, 50.5).state(0, Scene.HAS_BUMPED, 1).place(0, 26, 62);
     }
 
-    /** "each tank" means the tanks alive then: dead behind the bump of tank 0, tank 1 has no part of its own; behind tank 2's it had. */
+    /** "each tank" means the tanks alive then: dead by tank 0's bump, tank 1 has no part of its own; dead by tank 2's, it had one. */
     private static void aliveThen() {
         between(1).state(1, Scene.GUN_AT, (2 + 98) % 8).turns(1).state(1, Scene.GUN_AT, (2 + 99) % 8).state(1, Scene.ALIVE, 0);
         between(2).state(1, Scene.GUN_AT, (2 + 97) % 8).turns(1).state(1, Scene.GUN_AT, (2 + 97) % 8).state(1, Scene.ALIVE, 0);
@@ -197,12 +220,14 @@ public final class DrivingEdgesTest {
     /** "if it touches another tank alive": in turn 103 both are within 4 of the dead one at 30, 62. */
     private static void deadAreNotTouched() {
         between(2).turns(4).place(0, 27.5, 62).place(2, 32, 62).place(1, 30, 62).state(1, Scene.ALIVE, 0)
-            .measure(0, Scene.ENERGY, 50).measure(1, Scene.ENERGY, 0).measure(2, Scene.ENERGY, 50.5).state(0, Scene.HAS_BUMPED, 0);
+            .measure(0, Scene.ENERGY, 50).measure(1, Scene.ENERGY, 0).measure(2, Scene.ENERGY, 50.5)
+            .state(0, Scene.HAS_BUMPED, 0);
     }
 
     /** "Its heat is 1/4 less, not below 0": 1/4, 0 and 0 again; so too for one that bumps and one that is disabled. */
     private static void heatNotBelowZero() {
-        Scene scene = new Scene(CHECKS, "heat").tank(62, 30, 0, Scene.SPEED, 1, 0).tank(30, 30, 0, Scene.JUMP, 0, 0).tank(4, 4, 0);
+        Scene scene = new Scene(CHECKS, "heat").tank(62, 30, 0, Scene.SPEED, 1, 0).tank(30, 30, 0, Scene.JUMP, 0, 0)
+            .tank(4, 4, 0);
         for (int turn = 1; turn <= 15; turn++) {
             scene.turns(1);
             for (int tank = 0; tank < 3; tank++) {
@@ -229,6 +254,7 @@ public final class DrivingEdgesTest {
         onTheWallsLine();
         slantIntoTheWall();
         goesBack();
+        otherKeepsItsSpeed();
         goesBackTurned();
         leastNumberTouched();
         wallAndTank();

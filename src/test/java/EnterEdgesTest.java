@@ -69,8 +69,8 @@ public final class EnterEdgesTest {
         CHECKS.due("restart", scene.arena.restart(), 1);
         scene.tank(30, 10, 0);
 
-        refused("one turn made", s -> s.tank(10, 10, 0).tank(20, 10, 0).turns(1), 30, 10, 0);
-        refused("two turns made", s -> s.tank(10, 10, 0).tank(20, 10, 0).turns(2), 30, 10, 0);
+        refused("one turn made", s -> s.tank(10, 10, 0).tank(20, 10, 0).turns(1), 30, 10, 6);
+        refused("two turns made", s -> s.tank(10, 10, 0).tank(20, 10, 0).turns(2), 30, 10, 6);
         refused("a turn behind a restart", s -> {
             s.tank(10, 10, 0).tank(20, 10, 0).turns(1).arena.restart();
             s.turns(1);
@@ -84,8 +84,8 @@ public final class EnterEdgesTest {
     /** "4 are there": the fourth is entered, a fifth is not, behind a restart neither. */
     private static void fourThere() {
         four(new Scene(CHECKS, "the fourth")).count(Scene.TANKS, 4).place(3, 40, 10);
-        refused("four there", EnterEdgesTest::four, 50, 50, 0);
-        refused("four there again", s -> four(s).turns(3).arena.restart(), 50, 50, 0);
+        refused("four there", EnterEdgesTest::four, 50, 50, 6);
+        refused("four there again", s -> four(s).turns(3).arena.restart(), 50, 50, 6);
     }
 
     /** "it would touch one": "both the sizes of dx and dy are below 4". */
@@ -101,12 +101,12 @@ public final class EnterEdgesTest {
     }
 
     private static void touchingChangesNothing() {
-        refused("x 3 off", s -> s.tank(30, 30, 0, Scene.SPEED, 1, 0), 33, 30, 0);
-        refused("y 3 off", s -> s.tank(30, 30, 0, Scene.SPEED, 1, 0), 30, 27, 0);
-        refused("at the same place", s -> s.tank(30, 30, 0, Scene.SPEED, 1, 0), 30, 30, 0);
-        refused("the first of three", s -> s.tank(30, 30, 0).tank(40, 30, 0).tank(50, 30, 0), 27, 33, 0);
-        refused("the last of three", s -> s.tank(30, 30, 0).tank(40, 30, 0).tank(50, 30, 0), 53, 27, 0);
-        refused("between two", s -> s.tank(30, 30, 0).tank(36, 30, 0), 33, 30, 0);
+        refused("x 3 off", s -> s.tank(30, 30, 0, Scene.SPEED, 1, 0), 33, 30, 5);
+        refused("y 3 off", s -> s.tank(30, 30, 0, Scene.SPEED, 1, 0), 30, 27, 5);
+        refused("at the same place", s -> s.tank(30, 30, 0, Scene.SPEED, 1, 0), 30, 30, 5);
+        refused("the first of three", s -> s.tank(30, 30, 0).tank(40, 30, 0).tank(50, 30, 0), 27, 33, 5);
+        refused("the last of three", s -> s.tank(30, 30, 0).tank(40, 30, 0).tank(50, 30, 0), 53, 27, 5);
+        refused("between two", s -> s.tank(30, 30, 0).tank(36, 30, 0), 33, 30, 5);
     }
 
     /** A tank that was refused stands nowhere, and one that has driven off stands at its start behind a restart. */
@@ -117,7 +117,7 @@ public final class EnterEdgesTest {
         refused("where it started", s -> {
             s.tank(10, 10, 0, Scene.SPEED, 8, 0).tank(30, 30, 0).turns(9);
             s.arena.restart();
-        }, 13, 13, 0);
+        }, 13, 13, 5);
     }
 
     public static void main(String[] args) {

@@ -53,7 +53,8 @@ public final class GunEdgesTest {
             weak(power, new int[6]).measure(0, Scene.ENERGY, power + 0.5).count(Scene.SHOTS, 0)
                 .turns(1).count(Scene.SHOTS, 1).measure(0, Scene.ENERGY, 0.25).state(0, Scene.ALIVE, 1);
             weak(power, new int[12]).measure(0, Scene.ENERGY, power).count(Scene.SHOTS, 0)
-                .turns(1).count(Scene.SHOTS, 0).measure(0, Scene.ENERGY, power - 0.25).measure(0, Scene.HEAT, 0).state(0, Scene.ALIVE, 1);
+                .turns(1).count(Scene.SHOTS, 0).measure(0, Scene.ENERGY, power - 0.25).measure(0, Scene.HEAT, 0)
+                .state(0, Scene.ALIVE, 1);
         }
     }
 
@@ -64,6 +65,42 @@ public final class GunEdgesTest {
             .count(Scene.BULLETS, 0).measure(0, Scene.ENERGY, 97).measure(0, Scene.HEAT, 1.5);
     }
 
+    /** Neither the heading's nor the radar's direction, and the gun's before it turns on in step 4. */
+    private static void gunsDirection() {
+        new Scene(CHECKS, "gun")
+            .tank(30, 30, 0, Scene.GUN, 1, 0, Scene.WAIT, 0, 0, Scene.GUN, 1, 0, Scene.WAIT, 0, 0, Scene.RADAR, -1, 0,
+            Scene.FIRE, 1, 0, Scene.WAIT, 0, 0, Scene.JUMP, 4, 0).tank(4, 4, 0)
+            .turns(13).state(0, Scene.HEADING, 0).state(0, Scene.GUN_AT, 2).count(Scene.SHOTS, 1).bullet(0, 30, 37, 1, 2, 0);
+        new Scene(CHECKS, "turning gun").tank(30, 30, 0, Scene.GUN, 1, 0, Scene.FIRE, 1, 0).tank(4, 4, 0)
+            .turns(12).state(0, Scene.GUN_AT, 4).turns(1).state(0, Scene.GUN_AT, 5).bullet(0, 23, 30, 1, 4, 0);
+    }
+
+    /** The place is the one before the tank goes on in step 4. */
+    private static void tanksPlace() {
+        new Scene(CHECKS, "place").tank(10, 10, 0, Scene.SPEED, 1, 0, Scene.FIRE, 1, 0).tank(10, 50, 0)
+            .turns(12).place(0, 16, 10).turns(1).place(0, 16.5, 10).bullet(0, 16 + 7, 10, 1, 0, 0);
+    }
+
+    /**
+     * All that can be in the air: from the left wall a bullet of power 3 is at 62 behind turn 24 and flies on in turn 25, one of
+     * power 1 followed it in turn 20 and another does in turn 25. Not one of the 12 shots is left out.
+     */
+    private static void asManyAsCanBe() {
+        int[] program = {Scene.SET, 0, 19, Scene.FIRE, 3, 0, Scene.WAIT, 0, 0, Scene.LOOP, 1, 0, Scene.FIRE, 1, 0, Scene.WAIT, 0, 0, Scene.JUMP, 4, 0};
+        Scene scene = new Scene(CHECKS, "many");
+        for (int tank = 0; tank < 4; tank++) {
+            scene.tank(2, 10 + 10 * tank, 0, program);
+        }
+        scene.turns(24).count(Scene.SHOTS, 8).count(Scene.BULLETS, 8);
+        for (int tank = 0; tank < 4; tank++) {
+            scene.bullet(tank, 62, 10 + 10 * tank, 3, 0, tank).bullet(4 + tank, 37, 10 + 10 * tank, 1, 0, tank);
+        }
+        scene.turns(1).count(Scene.SHOTS, 12).count(Scene.BULLETS, 8);
+        for (int tank = 0; tank < 4; tank++) {
+            scene.bullet(tank, 44, 10 + 10 * tank, 1, 0, tank).bullet(4 + tank, 9, 10 + 10 * tank, 1, 0, tank);
+        }
+    }
+
     /** A tank that is no longer alive does not fire: tank 1 dies in turn 48 of 6 hits and 8 shots and would fire in turn 53. */
     private static void deadDoNotFire() {
         new Scene(CHECKS, "dead").tank(10, 10, 0, Scene.FIRE, 3, 0).tank(15, 10, 2, Scene.FIRE, 1, 0).tank(50, 50, 0)
@@ -72,12 +109,14 @@ public final class GunEdgesTest {
             .turns(6).count(Scene.SHOTS, 6 + 8).measure(1, Scene.ENERGY, -4).turns(1).count(Scene.SHOTS, 7 + 8);
     }
 
-    /** A tank that dies of a bullet in the turn of its shot has fired: step 2 comes first. */
+    /** A tank that dies of a bullet in the turn of its shot has fired, as step 2 comes first; step 4 cools it no more. */
     private static void firesBeforeItDies() {
         new Scene(CHECKS, "last shot").tank(10, 10, 0, Scene.FIRE, 3, 0)
             .tank(15, 10, 2, Scene.SET, 0, 54, Scene.WAIT, 0, 0, Scene.LOOP, 1, 0, Scene.FIRE, 1, 0).tank(50, 50, 0)
             .turns(54).measure(1, Scene.ENERGY, 4).count(Scene.SHOTS, 6)
-            .turns(1).state(1, Scene.ALIVE, 0).count(Scene.SHOTS, 8).measure(1, Scene.ENERGY, 4 - 1 - 16).bullet(0, 15, 17, 1, 2, 1);
+            .turns(1).state(1, Scene.ALIVE, 0).count(Scene.SHOTS, 8).measure(1, Scene.ENERGY, 4 - 1 - 16)
+            .bullet(0, 15, 17, 1, 2, 1)
+            .measure(1, Scene.HEAT, 1.25).turns(3).measure(1, Scene.HEAT, 1.25);
     }
 
     public static void main(String[] args) {
@@ -85,6 +124,9 @@ public final class GunEdgesTest {
         heatOfAShot();
         energyAbovePower();
         fromTheWall();
+        gunsDirection();
+        tanksPlace();
+        asManyAsCanBe();
         deadDoNotFire();
         firesBeforeItDies();
         CHECKS.end();

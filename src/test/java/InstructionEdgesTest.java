@@ -27,7 +27,8 @@ public final class InstructionEdgesTest {
             CHECKS.due("SPEED " + a, scene.arena.measure(0, Scene.WISH), 4 * a);
             scene.measure(0, Scene.VELOCITY, a == 0 ? 0 : 0.5);
         }
-        alone("SPEED 8, then 0", Scene.SPEED, 8, 0, Scene.SPEED, 0, 0).turns(1).measure(0, Scene.WISH, 0).measure(0, Scene.VELOCITY, 0);
+        alone("SPEED 8, then 0", Scene.SPEED, 8, 0, Scene.SPEED, 0, 0).turns(1).measure(0, Scene.WISH, 0)
+            .measure(0, Scene.VELOCITY, 0);
     }
 
     /** "is to turn by a (-1 .. 1) this turn; the last one of a kind counts": a last 0 too. */
@@ -121,7 +122,8 @@ public final class InstructionEdgesTest {
             .turns(13).state(1, Scene.WAS_HIT, 1).state(1, Scene.REGISTER_0, 0).state(1, Scene.REGISTER_1, -13)
             .turns(1).state(1, Scene.REGISTER_0, 1).state(1, Scene.REGISTER_1, -13)
             .turns(1).state(1, Scene.REGISTER_1, -14);
-        new Scene(CHECKS, "the one that fires").tank(10, 30, 0, Scene.FIRE, 1, 0, Scene.HIT, 3, 0, Scene.JUMP, 15, 0, Scene.SET, 0, 1)
+        new Scene(CHECKS, "the one that fires")
+            .tank(10, 30, 0, Scene.FIRE, 1, 0, Scene.HIT, 3, 0, Scene.JUMP, 15, 0, Scene.SET, 0, 1)
             .tank(16, 30, 0).turns(14).state(0, Scene.REGISTER_0, 0);
     }
 
@@ -150,8 +152,10 @@ public final class InstructionEdgesTest {
     /** "11 SET register a (0 or 1) to b (0 .. 100)": the other register stays. */
     private static void set() {
         for (int b : new int[] {0, 1, 99, 100}) {
-            alone("SET 0", Scene.SET, 0, 55, Scene.SET, 1, 66, Scene.SET, 0, b).turns(1).state(0, Scene.REGISTER_0, b).state(0, Scene.REGISTER_1, 66);
-            alone("SET 1", Scene.SET, 0, 55, Scene.SET, 1, 66, Scene.SET, 1, b).turns(1).state(0, Scene.REGISTER_0, 55).state(0, Scene.REGISTER_1, b);
+            alone("SET 0", Scene.SET, 0, 55, Scene.SET, 1, 66, Scene.SET, 0, b).turns(1).state(0, Scene.REGISTER_0, b)
+                .state(0, Scene.REGISTER_1, 66);
+            alone("SET 1", Scene.SET, 0, 55, Scene.SET, 1, 66, Scene.SET, 1, b).turns(1).state(0, Scene.REGISTER_0, 55)
+                .state(0, Scene.REGISTER_1, b);
         }
     }
 

@@ -59,7 +59,8 @@ public final class ProgramEdgesTest {
     /** What was asked for before the counter was at the end is done. */
     private static void doneWithoutAWait() {
         alone("to the end", Scene.SPEED, 3, 0, Scene.TURN, 1, 0, Scene.GUN, -1, 0, Scene.RADAR, 1, 0)
-            .turns(1).measure(0, Scene.WISH, 1.5).state(0, Scene.HEADING, 1).state(0, Scene.GUN_AT, 7).state(0, Scene.RADAR_AT, 1);
+            .turns(1).measure(0, Scene.WISH, 1.5).state(0, Scene.HEADING, 1).state(0, Scene.GUN_AT, 7)
+            .state(0, Scene.RADAR_AT, 1);
     }
 
     /** "at most 10 instructions": nine and ten are done, the eleventh is not. */
@@ -75,7 +76,8 @@ public final class ProgramEdgesTest {
     /** "If 10 were done and none was a WAIT": the tenth may be one, the eleventh is too late. */
     private static void tenthIsAWait() {
         alone("the tenth", many(9, speed(2), Scene.WAIT, 0, 0))
-            .turns(1).state(0, Scene.SKIPS, 0).state(0, Scene.COUNTER, 10).measure(0, Scene.WISH, 1).measure(0, Scene.VELOCITY, 0.5);
+            .turns(1).state(0, Scene.SKIPS, 0).state(0, Scene.COUNTER, 10).measure(0, Scene.WISH, 1)
+            .measure(0, Scene.VELOCITY, 0.5);
         alone("the eleventh", many(10, speed(2), Scene.WAIT, 0, 0))
             .turns(1).state(0, Scene.SKIPS, 1).state(0, Scene.COUNTER, 10).measure(0, Scene.WISH, 0).measure(0, Scene.VELOCITY, 0)
             .turns(1).state(0, Scene.SKIPS, 1).state(0, Scene.COUNTER, 11);
@@ -102,7 +104,8 @@ public final class ProgramEdgesTest {
         alone("before a WAIT", joined(asked, Scene.WAIT, 0, 0)).turns(14).state(0, Scene.SKIPS, 0).count(Scene.SHOTS, 1)
             .measure(0, Scene.WISH, 2).measure(0, Scene.VELOCITY, 0.5).measure(0, Scene.ENERGY, 98)
             .state(0, Scene.HEADING, 1).state(0, Scene.GUN_AT, 1).state(0, Scene.RADAR_AT, 7).state(0, Scene.REGISTER_1, 7);
-        alone("in a skip", joined(asked, Scene.JUMP, 8, 0)).turns(14).state(0, Scene.SKIPS, 1).count(Scene.SHOTS, 0).measure(0, Scene.HEAT, 0)
+        alone("in a skip", joined(asked, Scene.JUMP, 8, 0)).turns(14).state(0, Scene.SKIPS, 1).count(Scene.SHOTS, 0)
+            .measure(0, Scene.HEAT, 0)
             .measure(0, Scene.WISH, 0).measure(0, Scene.VELOCITY, 0).measure(0, Scene.ENERGY, 100)
             .state(0, Scene.HEADING, 0).state(0, Scene.GUN_AT, 0).state(0, Scene.RADAR_AT, 0)
             // "(counter and registers stay as they are)": the tenth instruction was the second JUMP.
@@ -126,21 +129,27 @@ public final class ProgramEdgesTest {
     /** SET and as many LOOPs as it says; then a register is set, and only then is there a WAIT. */
     private static Scene afterLoops(int loops) {
         return alone(loops + " LOOPs", Scene.SPEED, 8, 0, Scene.WAIT, 0, 0, Scene.SET, 0, loops, Scene.LOOP, 3, 0, Scene.SET, 1, 7,
-            Scene.WAIT, 0, 0, Scene.SET, 1, 8, Scene.WAIT, 0, 0).turns(3).state(0, Scene.SKIPS, 2).measure(0, Scene.VELOCITY, 1.5);
+            Scene.WAIT, 0, 0, Scene.SET, 1, 8, Scene.WAIT, 0, 0).turns(3).state(0, Scene.SKIPS, 2)
+                .measure(0, Scene.VELOCITY, 1.5);
     }
 
     /** "It is DISABLED from its third skip on": the WAIT is the 30th instruction of three runs, or the 31st. */
     private static void thirdSkip() {
-        afterLoops(27).turns(1).state(0, Scene.SKIPS, 2).state(0, Scene.REGISTER_1, 7).state(0, Scene.COUNTER, 6).measure(0, Scene.VELOCITY, 2)
+        afterLoops(27).turns(1).state(0, Scene.SKIPS, 2).state(0, Scene.REGISTER_1, 7).state(0, Scene.COUNTER, 6)
+            .measure(0, Scene.VELOCITY, 2)
             .turns(1).state(0, Scene.REGISTER_1, 8).state(0, Scene.COUNTER, 8).measure(0, Scene.VELOCITY, 2.5);
-        afterLoops(28).turns(1).state(0, Scene.SKIPS, 3).state(0, Scene.REGISTER_1, 7).state(0, Scene.COUNTER, 5).measure(0, Scene.VELOCITY, 0.5)
-            .turns(1).state(0, Scene.SKIPS, 3).state(0, Scene.REGISTER_1, 7).state(0, Scene.COUNTER, 5).measure(0, Scene.VELOCITY, 0)
-            .turns(9).state(0, Scene.SKIPS, 3).state(0, Scene.REGISTER_1, 7).state(0, Scene.COUNTER, 5).measure(0, Scene.VELOCITY, 0);
+        afterLoops(28).turns(1).state(0, Scene.SKIPS, 3).state(0, Scene.REGISTER_1, 7).state(0, Scene.COUNTER, 5)
+            .measure(0, Scene.VELOCITY, 0.5)
+            .turns(1).state(0, Scene.SKIPS, 3).state(0, Scene.REGISTER_1, 7).state(0, Scene.COUNTER, 5)
+            .measure(0, Scene.VELOCITY, 0)
+            .turns(9).state(0, Scene.SKIPS, 3).state(0, Scene.REGISTER_1, 7).state(0, Scene.COUNTER, 5)
+            .measure(0, Scene.VELOCITY, 0);
     }
 
     /** A disabled tank asks for no shot and no turn, but is hit, cools and sees as others do. */
     private static void disabledStaysInTheField() {
-        new Scene(CHECKS, "disabled").tank(30, 30, 0, Scene.FIRE, 1, 0, Scene.GUN, 1, 0, Scene.JUMP, 0, 0).tank(36, 30, 4, Scene.FIRE, 1, 0)
+        new Scene(CHECKS, "disabled").tank(30, 30, 0, Scene.FIRE, 1, 0, Scene.GUN, 1, 0, Scene.JUMP, 0, 0)
+            .tank(36, 30, 4, Scene.FIRE, 1, 0)
             .turns(3).state(0, Scene.SKIPS, 3).measure(0, Scene.HEAT, 2.25)
             .turns(10).state(0, Scene.WAS_HIT, 1).measure(0, Scene.ENERGY, 96).measure(0, Scene.HEAT, 0).state(0, Scene.SIGHT, 1)
             .turns(20).count(Scene.SHOTS, 5).state(0, Scene.GUN_AT, 0).state(0, Scene.ALIVE, 1);
@@ -148,7 +157,8 @@ public final class ProgramEdgesTest {
 
     /** A tank that is no longer alive does not run: tank 1 dies in turn 55. */
     private static void deadDoNotRun() {
-        new Scene(CHECKS, "dead").tank(10, 10, 0, Scene.FIRE, 3, 0).tank(15, 10, 2, Scene.LOOP, 0, 0, Scene.WAIT, 0, 0, Scene.JUMP, 0, 0)
+        new Scene(CHECKS, "dead").tank(10, 10, 0, Scene.FIRE, 3, 0)
+            .tank(15, 10, 2, Scene.LOOP, 0, 0, Scene.WAIT, 0, 0, Scene.JUMP, 0, 0)
             .tank(50, 50, 0).turns(55).state(1, Scene.ALIVE, 0).state(1, Scene.REGISTER_0, -55).state(1, Scene.COUNTER, 2)
             .turns(3).state(1, Scene.REGISTER_0, -55).state(1, Scene.COUNTER, 2);
     }

@@ -86,9 +86,11 @@ public final class QuestionEdgesTest {
     private static void noneSeen() {
         new Scene(CHECKS, "none seen").tank(10, 10, 0).tank(40, 10, 0)
             .measure(0, Scene.DISTANCE, 0).state(0, Scene.SIGHT, 4)
-            .turns(1).measure(0, Scene.DISTANCE, 30).state(0, Scene.SIGHT, 1).measure(1, Scene.DISTANCE, 0).state(1, Scene.SIGHT, 4);
+            .turns(1).measure(0, Scene.DISTANCE, 30).state(0, Scene.SIGHT, 1).measure(1, Scene.DISTANCE, 0)
+            .state(1, Scene.SIGHT, 4);
         new Scene(CHECKS, "tank 0 seen").tank(10, 10, 4).tank(40, 10, 4)
-            .turns(1).measure(1, Scene.DISTANCE, 30).state(1, Scene.SIGHT, 0).measure(0, Scene.DISTANCE, 0).state(0, Scene.SIGHT, 4);
+            .turns(1).measure(1, Scene.DISTANCE, 30).state(1, Scene.SIGHT, 0).measure(0, Scene.DISTANCE, 0)
+            .state(0, Scene.SIGHT, 4);
     }
 
     /** Promise 7: heading (0) to hit (10), "else REFUSED". */
@@ -120,6 +122,17 @@ public final class QuestionEdgesTest {
         CHECKS.due("dead: state(1, 11)", scene.arena.state(1, 11), TankArena.REFUSED);
     }
 
+    /** Nothing of a dead tank goes on: it dies at speed 1/2 in turn 55 of its seventh hit, on its way upwards beside tank 0. */
+    private static void deadAtSpeed() {
+        Scene scene = new Scene(CHECKS, "dead at speed").tank(10, 10, 0, Scene.FIRE, 3, 0)
+            .tank(15, 10, 2, Scene.SET, 0, 53, Scene.WAIT, 0, 0, Scene.LOOP, 1, 0, Scene.SPEED, 5, 0, Scene.GUN, 1, 0, Scene.WAIT, 0, 0)
+            .tank(50, 50, 0).turns(54).state(1, Scene.ALIVE, 1).place(1, 15, 10.5);
+        for (int turn = 55; turn <= 57; turn++) {
+            scene.turns(1).state(1, Scene.ALIVE, 0).place(1, 15, 10.5).measure(1, Scene.VELOCITY, 0.5).measure(1, Scene.WISH, 2.5)
+                .measure(1, Scene.ENERGY, -12).state(1, Scene.HEADING, 2).state(1, Scene.GUN_AT, 3).state(1, Scene.COUNTER, 0);
+        }
+    }
+
     /** Promise 8: "at index k (from 0 ..) that is still there": none, one, two, and none again. */
     private static void rangeOfBullets() {
         Scene scene = new Scene(CHECKS, "bullets").tank(50, 10, 0, Scene.FIRE, 1, 0).tank(10, 30, 0, Scene.FIRE, 3, 0);
@@ -140,7 +153,8 @@ public final class QuestionEdgesTest {
             refused("bullet(" + k + ", 0)", arena -> arena.bullet(k, 0));
         }
         Twins.refused(CHECKS, "bullet(0, 0) before a shot", scene -> fight(scene).turns(12), arena -> arena.bullet(0, 0));
-        Twins.refused(CHECKS, "bullet(2, 0) of two", scene -> fight(scene).turns(13).count(Scene.BULLETS, 2), arena -> arena.bullet(2, 0));
+        Twins.refused(CHECKS, "bullet(2, 0) of two", scene -> fight(scene).turns(13)
+            .count(Scene.BULLETS, 2), arena -> arena.bullet(2, 0));
     }
 
     /** Promise 8: x (0) to the tank that fired it (4). */
@@ -173,6 +187,7 @@ public final class QuestionEdgesTest {
         noneSeen();
         rangeOfState();
         deadTank();
+        deadAtSpeed();
         rangeOfBullets();
         noSuchBullet();
         rangeOfBulletsWhat();

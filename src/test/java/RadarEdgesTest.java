@@ -8,15 +8,19 @@ public final class RadarEdgesTest {
             .turns(1).state(0, Scene.SIGHT, 2).measure(0, Scene.DISTANCE, 29.5);
         new Scene(CHECKS, "the first is nearer").tank(10, 30, 0).tank(40, 34, 4, Scene.halfAStep()).tank(40, 30, 0)
             .turns(1).state(0, Scene.SIGHT, 1).measure(0, Scene.DISTANCE, 29.5);
-        new Scene(CHECKS, "the third is nearest").tank(10, 30, 0).tank(41, 36, 0).tank(40, 30, 0).tank(40, 25, 4, Scene.halfAStep())
+        new Scene(CHECKS, "the third is nearest").tank(10, 30, 0).tank(41, 36, 0).tank(40, 30, 0)
+            .tank(40, 25, 4, Scene.halfAStep())
             .turns(1).state(0, Scene.SIGHT, 3).measure(0, Scene.DISTANCE, 29.5);
     }
 
     /** "the least number if there are several": at one distance, by whichever coordinate. */
     private static void severalAtOneDistance() {
-        new Scene(CHECKS, "two by x").tank(10, 30, 0).tank(40, 34, 0).tank(40, 30, 0).turns(1).state(0, Scene.SIGHT, 1).measure(0, Scene.DISTANCE, 30);
-        new Scene(CHECKS, "three").tank(40, 30, 0).tank(40, 35, 0).tank(40, 25, 0).tank(10, 30, 0).turns(1).state(3, Scene.SIGHT, 0);
-        new Scene(CHECKS, "around the one that looks").tank(40, 34, 0).tank(10, 30, 0).tank(40, 30, 0).turns(1).state(1, Scene.SIGHT, 0);
+        new Scene(CHECKS, "two by x").tank(10, 30, 0).tank(40, 34, 0).tank(40, 30, 0).turns(1).state(0, Scene.SIGHT, 1)
+            .measure(0, Scene.DISTANCE, 30);
+        new Scene(CHECKS, "three").tank(40, 30, 0).tank(40, 35, 0).tank(40, 25, 0).tank(10, 30, 0).turns(1)
+            .state(3, Scene.SIGHT, 0);
+        new Scene(CHECKS, "around the one that looks").tank(40, 34, 0).tank(10, 30, 0).tank(40, 30, 0).turns(1)
+            .state(1, Scene.SIGHT, 0);
         new Scene(CHECKS, "one by x, one by y").tank(10, 10, 1).tank(30, 22, 0).tank(22, 30, 0).turns(1).state(0, Scene.SIGHT, 1)
             .measure(0, Scene.DISTANCE, 20);
         new Scene(CHECKS, "one by y, one by x").tank(10, 10, 1).tank(22, 30, 0).tank(30, 22, 0).turns(1).state(0, Scene.SIGHT, 1)
@@ -39,19 +43,23 @@ public final class RadarEdgesTest {
 
     /** The least and the greatest distance that there can be. */
     private static void leastAndGreatest() {
-        new Scene(CHECKS, "side by side").tank(10, 10, 0).tank(14, 10, 4).turns(1).measure(0, Scene.DISTANCE, 4).measure(1, Scene.DISTANCE, 4);
-        new Scene(CHECKS, "corner to corner").tank(2, 2, 1).tank(62, 62, 5).turns(1).measure(0, Scene.DISTANCE, 60).measure(1, Scene.DISTANCE, 60);
+        new Scene(CHECKS, "side by side").tank(10, 10, 0).tank(14, 10, 4).turns(1).measure(0, Scene.DISTANCE, 4)
+            .measure(1, Scene.DISTANCE, 4);
+        new Scene(CHECKS, "corner to corner").tank(2, 2, 1).tank(62, 62, 5).turns(1).measure(0, Scene.DISTANCE, 60)
+            .measure(1, Scene.DISTANCE, 60);
     }
 
     /** "or none": no tank in the radar's direction; what was seen a turn before is not seen on. */
     private static void none() {
         new Scene(CHECKS, "none").tank(10, 10, 0, Scene.WAIT, 0, 0, Scene.RADAR, 1, 0, Scene.WAIT, 0, 0).tank(40, 10, 0)
-            .turns(1).state(0, Scene.SIGHT, 1).measure(0, Scene.DISTANCE, 30).state(1, Scene.SIGHT, 4).measure(1, Scene.DISTANCE, 0)
+            .turns(1).state(0, Scene.SIGHT, 1).measure(0, Scene.DISTANCE, 30).state(1, Scene.SIGHT, 4)
+            .measure(1, Scene.DISTANCE, 0)
             .turns(1).state(0, Scene.SIGHT, 4).measure(0, Scene.DISTANCE, 0)
             .turns(1).state(0, Scene.SIGHT, 4);
         for (int radar = 0; radar < 8; radar++) {
             // Only the others count: itself is never seen.
-            new Scene(CHECKS, "radar " + radar).tank(2, 2, radar).tank(62, 10, 0).turns(1).state(0, Scene.SIGHT, radar == 0 ? 1 : 4);
+            new Scene(CHECKS, "radar " + radar).tank(2, 2, radar).tank(62, 10, 0).turns(1)
+                .state(0, Scene.SIGHT, radar == 0 ? 1 : 4);
         }
     }
 
@@ -62,7 +70,8 @@ public final class RadarEdgesTest {
         new Scene(CHECKS, "both moved").tank(10, 10, 0, Scene.SPEED, 1, 0).tank(40, 10, 4, Scene.SPEED, 1, 0)
             .turns(1).measure(0, Scene.DISTANCE, 29).measure(1, Scene.DISTANCE, 29);
         // 20 and 10 is still direction 0; with half a unit more in y it is not.
-        new Scene(CHECKS, "moved out of the sector").tank(10, 10, 0).tank(30, 20, 2, Scene.WAIT, 0, 0, Scene.SPEED, 1, 0, Scene.WAIT, 0, 0)
+        new Scene(CHECKS, "moved out of the sector").tank(10, 10, 0)
+            .tank(30, 20, 2, Scene.WAIT, 0, 0, Scene.SPEED, 1, 0, Scene.WAIT, 0, 0)
             .turns(1).state(0, Scene.SIGHT, 1).turns(1).state(0, Scene.SIGHT, 4);
     }
 
@@ -70,7 +79,8 @@ public final class RadarEdgesTest {
     private static void theDead() {
         new Scene(CHECKS, "dead").tank(10, 10, 0, Scene.FIRE, 3, 0).tank(15, 10, 4).tank(40, 10, 4)
             .turns(54).state(0, Scene.SIGHT, 1).measure(0, Scene.DISTANCE, 5).state(1, Scene.SIGHT, 0).state(2, Scene.SIGHT, 1)
-            .turns(1).state(0, Scene.SIGHT, 2).measure(0, Scene.DISTANCE, 30).state(1, Scene.SIGHT, 4).measure(1, Scene.DISTANCE, 0)
+            .turns(1).state(0, Scene.SIGHT, 2).measure(0, Scene.DISTANCE, 30).state(1, Scene.SIGHT, 4)
+            .measure(1, Scene.DISTANCE, 0)
             .state(2, Scene.SIGHT, 0).measure(2, Scene.DISTANCE, 30)
             .turns(1).state(1, Scene.SIGHT, 4).measure(1, Scene.DISTANCE, 0);
     }
@@ -91,7 +101,8 @@ public final class RadarEdgesTest {
         new Scene(CHECKS, "bumped").tank(10, 10, 0, Scene.SPEED, 1, 0).tank(14, 10, 0).tank(50, 50, 0).tank(50, 40, 0)
             .turns(200).state(0, Scene.ALIVE, 0).state(0, Scene.HAS_BUMPED, 1).state(1, Scene.HAS_BUMPED, 0)
             .turns(1).state(0, Scene.HAS_BUMPED, 0);
-        new Scene(CHECKS, "bumped once").tank(62, 30, 0, Scene.SPEED, 1, 0, Scene.WAIT, 0, 0, Scene.SPEED, 0, 0, Scene.WAIT, 0, 0).tank(30, 30, 0)
+        new Scene(CHECKS, "bumped once").tank(62, 30, 0, Scene.SPEED, 1, 0, Scene.WAIT, 0, 0, Scene.SPEED, 0, 0, Scene.WAIT, 0, 0)
+            .tank(30, 30, 0)
             .turns(1).state(0, Scene.HAS_BUMPED, 1).turns(1).state(0, Scene.HAS_BUMPED, 0);
     }
 

@@ -21,7 +21,8 @@ public final class ScoreEdgesTest {
     private static void fiftyForEach() {
         new Scene(CHECKS, "one death").tank(10, 10, 0, Scene.FIRE, 3, 0).tank(15, 10, 2).tank(50, 50, 0).tank(50, 40, 0)
             .turns(54).measure(2, Scene.SCORE, 0).measure(3, Scene.SCORE, 0)
-            .turns(1).measure(0, Scene.SCORE, 7 * 16 + 50).measure(1, Scene.SCORE, 0).measure(2, Scene.SCORE, 50).measure(3, Scene.SCORE, 50)
+            .turns(1).measure(0, Scene.SCORE, 7 * 16 + 50).measure(1, Scene.SCORE, 0).measure(2, Scene.SCORE, 50)
+            .measure(3, Scene.SCORE, 50)
             .turns(1).measure(2, Scene.SCORE, 50).measure(3, Scene.SCORE, 50);
         new Scene(CHECKS, "at the wall").tank(62, 30, 0, Scene.SPEED, 1, 0).tank(30, 30, 0).tank(4, 4, 0)
             .turns(400).measure(0, Scene.SCORE, 0).measure(1, Scene.SCORE, 50).measure(2, Scene.SCORE, 50);
@@ -32,7 +33,8 @@ public final class ScoreEdgesTest {
         new Scene(CHECKS, "two deaths").tank(10, 10, 0, Scene.FIRE, 3, 0).tank(15, 10, 2).tank(20, 10, 2).tank(50, 50, 0)
             .turns(55).state(1, Scene.ALIVE, 0).measure(2, Scene.SCORE, 50)
             // The shots of turns 62 to 104 hit a turn later.
-            .turns(50).state(2, Scene.ALIVE, 0).measure(0, Scene.SCORE, 14 * 16 + 100).measure(1, Scene.SCORE, 0).measure(2, Scene.SCORE, 50)
+            .turns(50).state(2, Scene.ALIVE, 0).measure(0, Scene.SCORE, 14 * 16 + 100).measure(1, Scene.SCORE, 0)
+            .measure(2, Scene.SCORE, 50)
             .measure(3, Scene.SCORE, 100);
     }
 
@@ -51,7 +53,8 @@ public final class ScoreEdgesTest {
         new Scene(CHECKS, "the one that bumps").tank(30, 62, 1, Scene.SPEED, 1, 0).tank(34, 62, 0)
             .turns(134).state(0, Scene.ALIVE, 0).measure(0, Scene.SCORE, 0).measure(1, Scene.SCORE, 50);
         new Scene(CHECKS, "the other one").tank(26, 30, 0, Scene.SPEED, 1, 0).tank(30, 30, 0).tank(34, 30, 4, Scene.SPEED, 1, 0)
-            .turns(100).state(1, Scene.ALIVE, 0).measure(0, Scene.SCORE, 50).measure(1, Scene.SCORE, 0).measure(2, Scene.SCORE, 50);
+            .turns(100).state(1, Scene.ALIVE, 0).measure(0, Scene.SCORE, 50).measure(1, Scene.SCORE, 0)
+            .measure(2, Scene.SCORE, 50);
     }
 
     /** Two die in step 3 of turn 76, one behind the other: the first has nothing for the second. */

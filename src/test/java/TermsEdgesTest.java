@@ -4,6 +4,19 @@ public final class TermsEdgesTest {
     private static final int[] STEP_X = {1, 1, 0, -1, -1, -1, 0, 1};
     private static final int[] STEP_Y = {0, 1, 1, 1, 0, -1, -1, -1};
 
+    /** "An object is used for at most 512 calls": the last of them is answered as the first; 99 shots leave an energy of 1. */
+    private static void lastCall() {
+        TankArena arena = new TankArena();
+        CHECKS.due("call 1", arena.enter(30, 30, 0), 0);
+        CHECKS.due("call 2", arena.enter(4, 60, 0), 1);
+        CHECKS.due("call 3", arena.instr(0, Scene.FIRE, 1, 0), 1);
+        for (int call = 4; call <= 510; call++) {
+            CHECKS.due("call " + call, arena.turn(), 2);
+        }
+        CHECKS.due("call 511", arena.measure(0, Scene.ENERGY), 8);
+        CHECKS.due("call 512", arena.count(Scene.SHOTS), 99);
+    }
+
     /** The border and the least step beyond it: a bullet at 64 or 0 is there, half a unit further it is gone. */
     private static void atTheBorder(int direction, int power) {
         int far = 8 - power;
@@ -52,13 +65,16 @@ public final class TermsEdgesTest {
 
     /** Behind the wrap-around the tank goes by the direction that it then has. */
     private static void goesBehindTheWrap() {
-        new Scene(CHECKS, "7 to 0").tank(30, 30, 7, Scene.TURN, 1, 0, Scene.SPEED, 1, 0).tank(60, 4, 0).turns(1).place(0, 30.5, 30);
-        new Scene(CHECKS, "0 to 7").tank(30, 30, 0, Scene.TURN, -1, 0, Scene.SPEED, 1, 0).tank(60, 4, 0).turns(1).place(0, 30.5, 29.5);
+        new Scene(CHECKS, "7 to 0").tank(30, 30, 7, Scene.TURN, 1, 0, Scene.SPEED, 1, 0).tank(60, 4, 0).turns(1)
+            .place(0, 30.5, 30);
+        new Scene(CHECKS, "0 to 7").tank(30, 30, 0, Scene.TURN, -1, 0, Scene.SPEED, 1, 0).tank(60, 4, 0).turns(1)
+            .place(0, 30.5, 29.5);
     }
 
     /** A whole round, three times, in both senses. */
     private static void turningOnAndOn() {
-        Scene left = new Scene(CHECKS, "round").tank(30, 30, 5, Scene.TURN, 1, 0, Scene.GUN, -1, 0, Scene.RADAR, 1, 0).tank(60, 4, 0);
+        Scene left = new Scene(CHECKS, "round").tank(30, 30, 5, Scene.TURN, 1, 0, Scene.GUN, -1, 0, Scene.RADAR, 1, 0)
+            .tank(60, 4, 0);
         for (int turn = 1; turn <= 24; turn++) {
             left.turns(1).state(0, Scene.HEADING, (5 + turn) % 8).state(0, Scene.GUN_AT, (29 - turn) % 8)
                 .state(0, Scene.RADAR_AT, (5 + turn) % 8);
@@ -187,6 +203,7 @@ public final class TermsEdgesTest {
     }
 
     public static void main(String[] args) {
+        lastCall();
         field();
         turning();
         goesBehindTheWrap();
