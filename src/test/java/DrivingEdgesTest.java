@@ -237,6 +237,21 @@ public final class DrivingEdgesTest {
         scene.state(0, Scene.HAS_BUMPED, 1).state(1, Scene.SKIPS, 3);
     }
 
+    /**
+     * The heat of one that dies in its bump is 1/4 less in that turn too, and from then on it stays: tank 0 stands on the
+     * wall's line behind turn 4, loses 1/4 in each turn from the fifth on and fires in the turns 13, 18 .. 228. Before the
+     * last of them it has 1 1/4, so that the wall takes its last 1/4 while the gun is hot.
+     */
+    private static void heatOfTheDying() {
+        Scene scene = new Scene(CHECKS, "heat of the dying").tank(4, 30, 4, Scene.SPEED, 1, 0, Scene.FIRE, 1, 0)
+            .tank(30, 30, 0).tank(50, 50, 0)
+            .turns(227).measure(0, Scene.ENERGY, 1.25).measure(0, Scene.HEAT, 0).state(0, Scene.ALIVE, 1).count(Scene.SHOTS, 43)
+            .turns(1).measure(0, Scene.ENERGY, 0).state(0, Scene.ALIVE, 0).count(Scene.SHOTS, 44).measure(0, Scene.HEAT, 1);
+        for (int turn = 229; turn <= 234; turn++) {
+            scene.turns(1).measure(0, Scene.HEAT, 1).measure(0, Scene.ENERGY, 0);
+        }
+    }
+
     /** "by rising numbers": the tank in front makes room for the one behind only if its number is less. */
     private static void byRisingNumbers() {
         new Scene(CHECKS, "front first").tank(34, 30, 0, Scene.SPEED, 1, 0).tank(30, 30, 0, Scene.SPEED, 1, 0)
@@ -264,6 +279,7 @@ public final class DrivingEdgesTest {
         aliveThen();
         deadAreNotTouched();
         heatNotBelowZero();
+        heatOfTheDying();
         byRisingNumbers();
         CHECKS.end();
     }
